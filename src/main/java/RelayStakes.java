@@ -625,7 +625,7 @@ public final class RelayStakes {
         }
     }
 
-    /** The turns of this tick and of those that can be proven; a later one takes the row of one that can't any more. */
+    /** The turn of this tick, and those that can be proven; a new one takes the row of one that can't any more. */
     private static final class Turns {
         private static final int ROWS = PROVABLE_TICKS + 1;
 

@@ -112,27 +112,14 @@ final class MessagesTest {
         due.fails("send(0, -1)", NO_SUCH, MessagesTest::sent, x -> x.send(0, -1));
         due.fails("send(4, 4)", NO_SUCH, MessagesTest::sent, x -> x.send(4, 4));
         due.fails("send(3, 3)", OUT, MessagesTest::sent, x -> x.send(3, 3));
-        due.fails("send(0, 3), the 61st", STATE, MessagesTest::fullLine, x -> x.send(0, 3));
         RelayStakes x = full();
         due.same("send(3, 2), the 61st", Answer.of(() -> x.send(3, 2)), "throws.IllegalStateException");
         due.same("send(3, 3), the 61st", Answer.of(() -> x.send(3, 3)), "throws.IllegalArgumentException");
+        due.same("send(0, 3), the 61st", Answer.of(() -> x.send(0, 3)), "throws.IllegalStateException");
+        due.is("nodeIs(0, 0), who sent none", x.nodeIs(0, 0), 100);
         due.is("cost(3, 2) with 60 messages", x.cost(3, 2), 0);
         x.pass(1);
         due.same("send(3, 2), with 60 delivered", Answer.of(() -> x.send(3, 2)), "throws.IllegalStateException");
-    }
-
-    /** Two nodes alone, so that all 60 messages can be observed within the calls of an object. */
-    private static RelayStakes fullLine() {
-        RelayStakes x = new RelayStakes();
-        x.node(9, 0, 0);
-        x.node(9, 0, 0);
-        x.node(9, 0, 0);
-        x.node(9, 0, 0);
-        x.link(0, 3, true);
-        for (int i = 0; i < 60; i++) {
-            x.send(0, 3);
-        }
-        return x;
     }
 
     private static void promise8PricesOfTheWayStay() {

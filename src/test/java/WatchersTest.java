@@ -118,6 +118,10 @@ final class WatchersTest {
             due.is("proof " + i, y.prove(0, 2 * i + 1), had[i]);
             due.is("trust after the proof " + i, y.nodeIs(1, 2), trust[i]);
         }
+        for (int i = had.length; i < 2 * had.length + 3; i++) {
+            ticks(y, ".w");
+            due.is("proof " + i + ", with nothing to have", y.prove(0, 2 * i + 1), 0);
+        }
         node("the sleeper", y, 1, 0, 0, 0);
         node("the prover", y, 0, 23, 0, 50);
     }
