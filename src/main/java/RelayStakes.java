@@ -537,7 +537,8 @@ public final class RelayStakes {
 
     /** Finds the way of a message. It keeps its rows, so that asking makes no new ones. */
     private static final class WaySearch {
-        private static final int FAR = Integer.MAX_VALUE;
+        /** Above the best of any way, so that it tells that there is none. */
+        private static final int FAR = 1000000;
         /** Above the hops of any way, so that hops decide only between ways of one weight. */
         private static final int HOPS_OF_A_WEIGHT = 100;
 
@@ -637,36 +638,47 @@ public final class RelayStakes {
             watchers = new int[ROWS];
             awake = new boolean[ROWS];
             proven = new boolean[ROWS];
-            for (int row = 0; row < ROWS; row++) {
+            for (int row = 0; row < watchers.length; row++) {
                 watchers[row] = NONE;
             }
         }
 
         private void begin(int tick, int watcher) {
             int row = rowOf(tick);
-            watchers[row] = watcher;
-            awake[row] = false;
-            proven[row] = false;
+            if (isRow(row)) {
+                watchers[row] = watcher;
+                awake[row] = false;
+                proven[row] = false;
+            }
         }
 
         private int watcherIn(int tick) {
-            return watchers[rowOf(tick)];
+            int row = rowOf(tick);
+            return isRow(row) ? watchers[row] : NONE;
         }
 
         private boolean wasAwake(int tick) {
-            return awake[rowOf(tick)];
+            int row = rowOf(tick);
+            return isRow(row) && awake[row];
         }
 
         private void setAwake(int tick) {
-            awake[rowOf(tick)] = true;
+            int row = rowOf(tick);
+            if (isRow(row)) {
+                awake[row] = true;
+            }
         }
 
         private boolean wasProven(int tick) {
-            return proven[rowOf(tick)];
+            int row = rowOf(tick);
+            return isRow(row) && proven[row];
         }
 
         private void setProven(int tick) {
-            proven[rowOf(tick)] = true;
+            int row = rowOf(tick);
+            if (isRow(row)) {
+                proven[row] = true;
+            }
         }
 
         /** The first tick behind this one and ahead of the end that had a watcher. */
@@ -681,6 +693,10 @@ public final class RelayStakes {
 
         private static int rowOf(int tick) {
             return Math.floorMod(tick, ROWS);
+        }
+
+        private boolean isRow(int row) {
+            return row >= 0 && row < watchers.length && row < awake.length && row < proven.length;
         }
     }
 }

@@ -1,5 +1,7 @@
 /** All that can be asked of an object, as a text. It changes the object: prices, losses and links show only by being set. */
 final class Observed {
+    private static final int LAST_TICK = 5000;
+
     private Observed() {
     }
 
@@ -22,7 +24,20 @@ final class Observed {
             text.append(" price ").append(x.price(node, 0));
             text.append(" losses ").append(x.lose(node, 0));
         }
-        return text.append(" tick ").append(Answer.of(() -> x.pass(1))).toString();
+        String tick = Answer.of(() -> x.pass(1));
+        text.append(" tick ").append(tick).append(" proofs");
+        addProofs(text, x, nodes, tick.startsWith("throws.") ? LAST_TICK : Integer.parseInt(tick));
+        return text.toString();
+    }
+
+    private static void addProofs(StringBuilder text, RelayStakes x, int nodes, int tick) {
+        for (int slept = Math.max(0, tick - 12); slept < tick; slept++) {
+            for (int node = 0; node < nodes; node++) {
+                int prover = node;
+                int told = slept;
+                text.append(' ').append(Answer.of(() -> x.prove(prover, told)));
+            }
+        }
     }
 
     private static void addNode(StringBuilder text, RelayStakes x, int node) {
