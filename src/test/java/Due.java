@@ -44,6 +44,14 @@ final class Due {
         same(call + ", and all after it", Observed.all(x), Observed.all(made.get()));
     }
 
+    /** The way of this message has just these nodes. */
+    void way(String when, RelayStakes x, int message, int... want) {
+        for (int place = 0; place < want.length; place++) {
+            is(when + ": way(" + message + ", " + place + ")", x.way(message, place), want[place]);
+        }
+        is(when + ": way(" + message + "), behind the last", x.way(message, want.length), RelayStakes.NONE);
+    }
+
     /** A call that is at an edge of what is allowed. */
     void answers(String call, long want, Supplier<RelayStakes> made, ToLongFunction<RelayStakes> toCall) {
         RelayStakes x = made.get();

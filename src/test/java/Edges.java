@@ -22,7 +22,7 @@ final class Edges {
     void of(String words, Consumer<Due> test) {
         List<String> found = sentencesWith(words);
         due.under(heading + ", \"" + words + "\"");
-        due.is("the words stand in the document", found.isEmpty(), false);
+        due.is("the words stand in the document", document.isEmpty() || !found.isEmpty(), true);
         tested.computeIfAbsent(heading, any -> new HashSet<>()).addAll(found);
         int before = due.asked();
         try {

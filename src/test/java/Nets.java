@@ -62,4 +62,69 @@ final class Nets {
         }
         return x;
     }
+
+    /** Three nodes, each linked to both others. */
+    static RelayStakes ring() {
+        return link(nodes(3), 0, 1, 1, 2, 2, 0);
+    }
+
+    /** 0 - 1 - 2 - 3: the sender has 100, and pays 9 to node 1, with a stake of 40, and 7 to node 2, with one of 30. */
+    static RelayStakes overTwo() {
+        return line(100, 40, 9, 30, 7);
+    }
+
+    static RelayStakes sent() {
+        RelayStakes x = overTwo();
+        x.send(0, 3);
+        return x;
+    }
+
+    static RelayStakes twoSent() {
+        RelayStakes x = sent();
+        x.send(3, 2);
+        return x;
+    }
+
+    /** From 0 to 1 over 2, 3, 4 .., one of them alone, at these prices, with stakes of 999. */
+    static RelayStakes fork(int... prices) {
+        RelayStakes x = new RelayStakes();
+        x.node(9999, 0, 0);
+        x.node(0, 0, 0);
+        for (int price : prices) {
+            int relay = x.node(0, 999, price);
+            link(x, 0, relay, relay, 1);
+        }
+        return x;
+    }
+
+    /** Node 2 has this trust, and a price of 10; node 3 has a trust of 50, and the other price. */
+    static RelayStakes trusted(int up, int down, int otherPrice) {
+        RelayStakes x = fork(0);
+        for (int i = 0; i < up; i++) {
+            x.send(0, 1);
+        }
+        pass(x, 2);
+        x.lose(2, down);
+        for (int i = 0; i < down; i++) {
+            x.send(0, 1);
+        }
+        x.pass(1);
+        x.price(2, 10);
+        x.node(0, 999, otherPrice);
+        return link(x, 0, 3, 3, 1);
+    }
+
+    static RelayStakes overTen() {
+        RelayStakes x = line(99, 2, 1, 2, 1, 2, 1, 2, 1, 2, 1, 2, 1, 2, 1, 2, 1, 2, 1, 2, 1);
+        x.send(0, 11);
+        return x;
+    }
+
+    /** Three relay, for 9, 7 and 5; it is lost at the node with this number. */
+    static RelayStakes lostAt(int node) {
+        RelayStakes x = line(100, 40, 9, 30, 7, 60, 5);
+        x.send(0, 4);
+        x.lose(node, 1);
+        return pass(x, node);
+    }
 }

@@ -27,6 +27,7 @@ final class Observed {
         String tick = Answer.of(() -> x.pass(1));
         text.append(" tick ").append(tick).append(" proofs");
         addProofs(text, x, nodes, tick.startsWith("throws.") ? LAST_TICK : Integer.parseInt(tick));
+        addOneMore(text, x, nodes);
         return text.toString();
     }
 
@@ -37,6 +38,16 @@ final class Observed {
                 int told = slept;
                 text.append(' ').append(Answer.of(() -> x.prove(prover, told)));
             }
+        }
+    }
+
+    /** A node that comes now is linked with none. */
+    private static void addOneMore(StringBuilder text, RelayStakes x, int nodes) {
+        String made = Answer.of(() -> x.node(1, 2, 3));
+        text.append(" one more ").append(made);
+        for (int node = 0; node < nodes && !made.startsWith("throws."); node++) {
+            text.append(' ').append(x.link(node, nodes, false));
+            text.append(' ').append(x.link(nodes, node, false));
         }
     }
 

@@ -63,29 +63,16 @@ final class TickEdges {
         edges.of("and what is in messages that are ON_WAY", TickEdges::inMessagesOnTheWay);
     }
 
-    // ---- networks
-
-    /** 0 - 1 - 2 - 3: the sender has 100, and pays 9 to node 1, with a stake of 40, and 7 to node 2, with one of 30. */
-    private static RelayStakes line() {
-        return Nets.line(100, 40, 9, 30, 7);
-    }
-
-    private static RelayStakes sent() {
-        RelayStakes x = line();
-        x.send(0, 3);
-        return x;
-    }
-
     // ---- promise 16
 
     private static void messagesGoOn(Due due) {
         for (int ticks = 1; ticks <= 4; ticks++) {
-            RelayStakes at = sent();
+            RelayStakes at = Nets.sent();
             at.pass(ticks);
             due.is("message(0, 1) after pass(" + ticks + ")", at.message(0, 1), Math.min(3, ticks));
             due.is("nodeIs(1, 0) after pass(" + ticks + ")", at.nodeIs(1, 0), ticks < 3 ? 0 : 9);
         }
-        RelayStakes two = sent();
+        RelayStakes two = Nets.sent();
         two.pass(1);
         two.send(0, 3);
         two.pass(1);
@@ -135,9 +122,9 @@ final class TickEdges {
     }
 
     private static void howManyTicks(Due due) {
-        due.range("pass(ticks)", 1, 30, OUT, TickEdges::sent, (x, ticks) -> x.pass(ticks));
+        due.range("pass(ticks)", 1, 30, OUT, Nets::sent, (x, ticks) -> x.pass(ticks));
         for (int ticks : new int[] {1, 2, 29, 30}) {
-            due.answers("pass(" + ticks + ")", ticks, TickEdges::sent, x -> x.pass(ticks));
+            due.answers("pass(" + ticks + ")", ticks, Nets::sent, x -> x.pass(ticks));
         }
     }
 
@@ -154,7 +141,7 @@ final class TickEdges {
         int[][] tickAndTicks = {{4969, 30}, {4970, 30}, {4971, 30}, {4998, 1}, {4998, 2}, {4998, 3}, {4999, 1}, {4999, 2}, {5000, 1}, {5000, 30}};
         for (int[] one : tickAndTicks) {
             String call = "pass(" + one[1] + ") in the tick " + one[0];
-            Supplier<RelayStakes> made = () -> Nets.pass(sent(), one[0]);
+            Supplier<RelayStakes> made = () -> Nets.pass(Nets.sent(), one[0]);
             int then = one[0] + one[1];
             if (then <= 5000) {
                 due.answers(call, then, made, x -> x.pass(one[1]));
@@ -162,9 +149,9 @@ final class TickEdges {
                 due.fails(call, STATE, made, x -> x.pass(one[1]));
             }
         }
-        due.fails("pass(31) in the tick 5000", OUT, () -> Nets.pass(sent(), 5000), x -> x.pass(31));
-        due.fails("pass(0) in the tick 5000", OUT, () -> Nets.pass(sent(), 5000), x -> x.pass(0));
-        RelayStakes last = Nets.pass(line(), 4999);
+        due.fails("pass(31) in the tick 5000", OUT, () -> Nets.pass(Nets.sent(), 5000), x -> x.pass(31));
+        due.fails("pass(0) in the tick 5000", OUT, () -> Nets.pass(Nets.sent(), 5000), x -> x.pass(0));
+        RelayStakes last = Nets.pass(Nets.overTwo(), 4999);
         last.send(0, 3);
         last.pass(1);
         due.same("pass(1) in the tick 5000", Answer.of(() -> last.pass(1)), "throws.IllegalStateException");
@@ -236,7 +223,7 @@ final class TickEdges {
     }
 
     private static void whatItGot(Due due) {
-        RelayStakes x = sent();
+        RelayStakes x = Nets.sent();
         int[] want = {0, 0, 0, 9, 9};
         for (int tick = 0; tick < want.length; tick++) {
             due.is("nodeIs(1, 4) in the tick " + tick, x.nodeIs(1, 4), want[tick]);
@@ -258,7 +245,7 @@ final class TickEdges {
     }
 
     private static void howManyReceipts(Due due) {
-        RelayStakes x = sent();
+        RelayStakes x = Nets.sent();
         x.send(0, 2);
         int[] first = {0, 2, 2, 2};
         int[] second = {0, 0, 1, 1};
@@ -300,7 +287,7 @@ final class TickEdges {
     }
 
     private static void deliveredOrLost(Due due) {
-        RelayStakes x = sent();
+        RelayStakes x = Nets.sent();
         x.send(0, 2);
         x.send(0, 3);
         int[] first = {0, 0, 18, 27};
@@ -339,7 +326,7 @@ final class TickEdges {
 
     private static void inMessagesOnTheWay(Due due) {
         for (int lost = 0; lost <= 2; lost++) {
-            RelayStakes x = line();
+            RelayStakes x = Nets.overTwo();
             x.lose(lost, 1);
             for (int i = 0; i < 3; i++) {
                 x.send(0, 3);
@@ -367,7 +354,7 @@ final class TickEdges {
 
     /** An object in its tick 25: node 4 is LEAVING, 5 GONE; message 0 is DELIVERED, 1 LOST, 2 ON_WAY; some slept, some were awake. */
     private static RelayStakes busy() {
-        RelayStakes x = line();
+        RelayStakes x = Nets.overTwo();
         x.node(100, 20, 5);
         x.node(100, 20, 5);
         x.leave(5);
@@ -576,8 +563,21 @@ final class TickEdges {
         due.fails("put(0, 101) of 100", STATE, () -> Nets.nodes(2), y -> y.put(0, 101));
         due.fails("join(0, 101) of 100", STATE, Nets::leaving, y -> y.join(0, 101));
         due.fails("send(0, 2) of 4", STATE, () -> Nets.line(4, 20, 5), y -> y.send(0, 2));
-        due.fails("pass(2) in the tick 4999", STATE, () -> Nets.pass(sent(), 4999), y -> y.pass(2));
+        due.fails("pass(2) in the tick 4999", STATE, () -> Nets.pass(Nets.sent(), 4999), y -> y.pass(2));
         due.fails("a 13th node", STATE, () -> Nets.nodes(12), y -> y.node(1, 1, 1));
+        due.fails("wake(-1)", NO_SUCH, TickEdges::busy, y -> Answer.bit(y.wake(-1)));
+        due.fails("wake(6)", NO_SUCH, TickEdges::busy, y -> Answer.bit(y.wake(6)));
+        due.fails("prove(0, 2), proven", STATE, TickEdges::proven, y -> y.prove(0, 2));
+        due.fails("prove(2, 1), the prover asleep", STATE, TickEdges::proven, y -> y.prove(2, 1));
+        due.fails("link(0, 4, true), ahead of a node 4", NO_SUCH, Nets::overTwo, y -> Answer.bit(y.link(0, 4, true)));
+        due.fails("link(4, 0, true), ahead of a node 4", NO_SUCH, Nets::overTwo, y -> Answer.bit(y.link(4, 0, true)));
+    }
+
+    /** In the tick 4 the turn of 2, in the tick 2, is proven; the one of 1, ahead of it, was slept, too. */
+    private static RelayStakes proven() {
+        RelayStakes x = Nets.ticks(Nets.nodes(3), "...w");
+        x.prove(0, 2);
+        return x;
     }
 
     private static void theTickAtFirst(Due due) {

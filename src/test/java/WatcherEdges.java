@@ -179,19 +179,26 @@ final class WatcherEdges {
         x.leave(0);
         due.is("watcher() in the tick 3, as it left", x.watcher(), 0);
         due.is("wake(0) in the tick 3, as it left", x.wake(0), true);
-        x.pass(2);
-        due.is("watcher() of 1, 2 in the tick 5", x.watcher(), 2);
+        x.pass(3);
+        due.is("watcher() of 1, 2 in the tick 6", x.watcher(), 1);
         x.join(0, 0);
-        due.is("watcher() in the tick 5, as 0 joined", x.watcher(), 2);
-        x.leave(0);
-        x.join(0, 0);
-        x.pass(2);
+        due.is("watcher() in the tick 6, as 0 joined", x.watcher(), 1);
+        due.is("wake(0) in the tick 6, as it joined", x.wake(0), false);
+        x.pass(1);
         due.is("watcher() of 3 in the tick 7", x.watcher(), 1);
         x.leave(1);
         due.is("watcher() in the tick 7, as it left", x.watcher(), 1);
         x.join(1, 0);
         x.pass(1);
         due.is("watcher() of 3 in the tick 8, as one left and joined again", x.watcher(), 2);
+        x.leave(0);
+        x.leave(1);
+        x.pass(1);
+        due.is("watcher() of 2 in the tick 9", x.watcher(), 2);
+        x.join(0, 0);
+        x.leave(0);
+        x.pass(1);
+        due.is("watcher() of 2 in the tick 10, as one joined and left again", x.watcher(), 2);
     }
 
     /** In the tick 4: the watcher 2 of the tick 2 slept, or not; the watcher 0 of the tick 3 was awake. */
@@ -403,6 +410,11 @@ final class WatcherEdges {
             x.prove(2, 1);
             return x;
         }, x -> x.prove(2, 1));
+        due.fails("prove(0, 2) anew, with the tick ahead of it slept, too", STATE, () -> {
+            RelayStakes x = three("...w");
+            x.prove(0, 2);
+            return x;
+        }, x -> x.prove(0, 2));
         RelayStakes x = new RelayStakes();
         x.node(0, 999, 0);
         x.node(0, 999, 0);
