@@ -6,9 +6,10 @@ import java.util.LinkedHashMap;
 import java.util.List;
 import java.util.Map;
 
-/** The sentences of ../shared/DOC.md by their headings; none without it. The tests run in the checkout's root. */
+/** The sentences of ../shared/DOC.md by their headings, and the face; none without it. The tests run in the checkout's root. */
 final class Document {
     private final Map<String, List<String>> sections = new LinkedHashMap<>();
+    private final List<String> face = new ArrayList<>();
 
     Document() {
         String heading = "";
@@ -19,7 +20,9 @@ final class Document {
             } else if (line.startsWith("#")) {
                 heading = line.replaceFirst("^#+ ", "");
                 sections.put(heading, new ArrayList<>());
-            } else if (!code && !line.isBlank()) {
+            } else if (code) {
+                face.add(line);
+            } else if (!line.isBlank()) {
                 addSentences(sections.get(heading), line);
             }
         }
@@ -29,13 +32,18 @@ final class Document {
         try {
             return Files.readAllLines(Path.of("../shared/DOC.md"));
         } catch (IOException e) {
-            System.out.println("../shared/DOC.md can't be read: whether each of its sentences has a test isn't looked at");
+            System.out.println("../shared/DOC.md can't be read: the tests go without what they look up in it");
             return List.of();
         }
     }
 
     boolean isEmpty() {
         return sections.isEmpty();
+    }
+
+    /** The lines of the public face, which are all the code that stands there. */
+    List<String> face() {
+        return face;
     }
 
     private static void addSentences(List<String> section, String line) {
